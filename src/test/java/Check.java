@@ -1,0 +1,50 @@
+import java.util.Objects;
+
+/** Counts what is as due and prints what is not. */
+final class Check {
+  private static int passed = 0;
+  private static int failed = 0;
+
+  private Check() {}
+
+  static void same(String what, Object got, Object due) {
+    if (Objects.equals(got, due)) {
+      passed++;
+    } else {
+      failed++;
+      System.out.println(what + ": answered " + got + ", due is " + due);
+    }
+  }
+
+  /** The call must throw just this exception and leave all answers of the room as they were. */
+  static void refuses(ParleyRoom room, String what, Class<?> due, Runnable call) {
+    String before = Snapshot.of(room);
+    Object got = "nothing";
+    try {
+      call.run();
+    } catch (RuntimeException e) {
+      got = e.getClass();
+    }
+    same(what + " throws", got, due);
+    same(what + " changes nothing", Snapshot.of(room), before);
+  }
+
+  static void noSuch(ParleyRoom room, String what, Runnable call) {
+    refuses(room, what, IndexOutOfBoundsException.class, call);
+  }
+
+  static void outOfRange(ParleyRoom room, String what, Runnable call) {
+    refuses(room, what, IllegalArgumentException.class, call);
+  }
+
+  static void notNow(ParleyRoom room, String what, Runnable call) {
+    refuses(room, what, IllegalStateException.class, call);
+  }
+
+  static void close() {
+    System.out.println(passed + " checks as due, " + failed + " not");
+    if (failed > 0) {
+      System.exit(1);
+    }
+  }
+}
