@@ -16,15 +16,21 @@ final class Check {
     }
   }
 
-  /** The call must throw just this exception and leave all answers of the room as they were. */
+  /**
+   * The call must throw just this exception, from the class itself and not from the library, and
+   * leave all answers of the room as they were.
+   */
   static void refuses(ParleyRoom room, String what, Class<?> due, Runnable call) {
     String before = Snapshot.of(room);
     Object got = "nothing";
+    String from = "nowhere";
     try {
       call.run();
     } catch (RuntimeException e) {
       got = e.getClass();
+      from = e.getStackTrace()[0].getClassName();
     }
+    same(what + " throws by itself", from, "ParleyRoom");
     same(what + " throws", got, due);
     same(what + " changes nothing", Snapshot.of(room), before);
   }

@@ -146,6 +146,16 @@ final class CommitmentTests {
     talk.replies(1, ParleyRoom.ACK, hint);
     stands(talk, 0, 3, 2, hint);
 
+    for (int speaker = 0; speaker < 4; speaker++) {
+      for (int atom = 0; atom < 10; atom++) {
+        talk = new Talk();
+        hint = talk.hints(speaker, atom, 1);
+        talk.replies((speaker + 1) % 4, ParleyRoom.ACK, hint);
+        talk.room.tick(3);
+        stands(talk, speaker, atom, 1, hint);
+      }
+    }
+
     talk = new Talk();
     hint = talk.hints(0, 3, 2);
     talk.room.tick(4);
@@ -160,6 +170,8 @@ final class CommitmentTests {
     talk.replies(1, ParleyRoom.ACK, hint);
     talk.does(0, ParleyRoom.CANCEL, 3, 0);
     Check.same("canceled", talk.room.hint(0, 3), 0);
+    Check.same("a cancel is no offer", talk.isOpen(2), false);
+    Check.same("a cancel gives no right", talk.room.next(), -1);
     talk.room.tick(6);
     stands(talk, 0, 3, 0, -1);
 
@@ -318,6 +330,12 @@ final class CommitmentTests {
     talk.asserts(1, 3, 1);
     talk.asserts(1, 5, 1);
     Check.same("another one's reason", talk.room.isSupported(1, 3), false);
+    talk.does(1, ParleyRoom.BECAUSE, 3, 0);
+    talk.does(1, ParleyRoom.BECAUSE, 0, 9);
+    Check.same("the first atom as a reason", talk.room.isSupported(1, 3), true);
+    Check.same("a reason for the first atom", talk.room.isSupported(1, 0), true);
+    talk.does(1, ParleyRoom.RETRACT, 9, 0);
+    Check.same("the last atom taken back", talk.room.isSupported(1, 0), false);
   }
 
   private static void lies() {

@@ -6,6 +6,7 @@ final class HearingTests {
     toWhom();
     languages();
     interpreters();
+    interpretersInTurn();
     interpretersThatAreNone();
     languageOfTheTurn();
     deafness();
@@ -67,6 +68,28 @@ final class HearingTests {
     heard(late, coming, 0, 2, 3, 2);
     late.room.tick(1);
     heard(late, coming, 0, 3, 3, 3);
+  }
+
+  /** All have their roles in turn: one speaks, one interprets, one hears late, one misses it. */
+  private static void interpretersInTurn() {
+    for (int speaker = 0; speaker < 4; speaker++) {
+      for (int shift = 1; shift < 4; shift++) {
+        int interpreter = (speaker + shift) % 4;
+        int hearer = (speaker + shift % 3 + 1) % 4;
+        int deaf = 6 - speaker - interpreter - hearer;
+        Talk talk = new Talk();
+        talk.room.knows(speaker, 4, 2, false);
+        talk.room.knows(interpreter, 5, 0, true);
+        talk.room.deafen(deaf, 1);
+        int turn = talk.hints(speaker, 0, 1);
+        Check.same("interpreter", talk.room.heard(turn, interpreter), ParleyRoom.HEARD);
+        Check.same("hearer", talk.room.heard(turn, hearer), ParleyRoom.COMING);
+        Check.same("deaf one", talk.room.heard(turn, deaf), ParleyRoom.MISSED);
+        Check.same("repeat", talk.can(speaker, ParleyRoom.REPEAT, turn, 0), true);
+        talk.room.tick(1);
+        Check.same("hearer, later", talk.room.heard(turn, hearer), ParleyRoom.HEARD);
+      }
+    }
   }
 
   private static void interpretersThatAreNone() {

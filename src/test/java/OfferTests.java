@@ -68,6 +68,9 @@ final class OfferTests {
     Check.same("value in vain by the other one", talk.room.turn(accept, 3), 0);
     owners(talk, 0, 2, 1, -1, 2, -1, -1, -1);
     Check.same("still no deal", talk.room.deals(), 0);
+    int claim = talk.asserts(1, 4, 1);
+    talk.replies(0, ParleyRoom.DENY, claim);
+    Check.same("a denial is no deal", talk.room.deals(), 0);
   }
 
   private static void reject() {

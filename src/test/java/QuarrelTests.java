@@ -4,6 +4,7 @@ final class QuarrelTests {
 
   static void run() {
     begin();
+    amongAnyTwo();
     theSame();
     bothWays();
     endByReasons();
@@ -42,6 +43,32 @@ final class QuarrelTests {
     talk.replies(1, ParleyRoom.DENY, claim);
     count(talk, "about what is asserted by another turn", 1);
     Check.same("that turn", talk.room.standBy(0, 3), again);
+  }
+
+  private static void amongAnyTwo() {
+    for (int asserter = 0; asserter < 4; asserter++) {
+      for (int other = 0; other < 4; other++) {
+        if (other != asserter) {
+          twoQuarrel(asserter, other);
+        }
+      }
+    }
+  }
+
+  private static void twoQuarrel(int asserter, int other) {
+    Talk talk = new Talk();
+    int claim = talk.asserts(asserter, 0, 2);
+    int denial = talk.does(other, ParleyRoom.DENY, claim, 3);
+    count(talk, "between two", 1);
+    Check.same("the value of a denial stays", talk.room.turn(denial, 3), 3);
+    talk.does(asserter, ParleyRoom.BECAUSE, 0, 9);
+    count(talk, "ended by a reason", 0);
+    talk.replies(other, ParleyRoom.DENY, claim);
+    talk.replies(other, ParleyRoom.CONCEDE, claim);
+    count(talk, "ended by conceding", 0);
+    talk.replies(other, ParleyRoom.DENY, claim);
+    talk.does(asserter, ParleyRoom.RETRACT, 0, 0);
+    count(talk, "ended by retracting", 0);
   }
 
   private static void theSame() {

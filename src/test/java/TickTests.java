@@ -108,6 +108,17 @@ final class TickTests {
   }
 
   private static void acksAmongThemselves() {
+    for (int speaker = 0; speaker < 4; speaker++) {
+      Talk any = new Talk();
+      int other = (speaker + 1) % 4;
+      int turn = any.hints(other, 0, 1);
+      int ack = any.say(speaker, ParleyRoom.ACK, turn, 0);
+      int next = any.say(other, ParleyRoom.HINT, 1, 1);
+      any.room.tick(1);
+      Check.same("ack by any", any.state(ack), ParleyRoom.DONE);
+      Check.same("taken by any", any.room.heard(turn, speaker), ParleyRoom.TAKEN);
+      Check.same("the floor beside", any.state(next), ParleyRoom.DONE);
+    }
     Talk talk = new Talk();
     int hint = talk.hints(0, 0, 1);
     talk.say(2, ParleyRoom.ACK, hint, 0);
