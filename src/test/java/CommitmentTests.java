@@ -124,7 +124,6 @@ final class CommitmentTests {
     Check.same("5 ticks ago", talk.room.hint(0, 3), 0);
     stands(talk, 0, 3, 0, -1);
     Check.same("the turn stays", talk.state(first), ParleyRoom.DONE);
-    Check.same("hint in a loud room", talk.room.hint(0, 3), 0);
   }
 
   private static void hintsThatHarden() {
@@ -176,8 +175,7 @@ final class CommitmentTests {
     stands(talk, 0, 3, 0, -1);
 
     talk = new Talk();
-    hint = talk.hints(0, 3, 2);
-    talk.replies(1, ParleyRoom.ACK, hint);
+    talk.replies(1, ParleyRoom.ACK, talk.hints(0, 3, 2));
     int instead = talk.hints(0, 3, 1);
     Check.same("another one in its place", talk.room.hint(0, 3), 1);
     talk.room.tick(2);
@@ -226,14 +224,14 @@ final class CommitmentTests {
 
   private static void silenceThatDoesNotCount() {
     Talk talk = new Talk();
-    int claim = talk.asserts(0, 3, 2);
+    talk.asserts(0, 3, 2);
     talk.room.tick(5);
     talk.room.strict(true);
     talk.room.tick(5);
     stands(talk, 1, 3, 0, -1);
 
     talk = new Talk();
-    claim = talk.asserts(0, 3, 2);
+    int claim = talk.asserts(0, 3, 2);
     talk.room.tick(4);
     talk.room.strict(true);
     talk.room.tick(1);
@@ -241,7 +239,7 @@ final class CommitmentTests {
 
     talk = new Talk();
     talk.room.strict(true);
-    claim = talk.asserts(0, 3, 2);
+    talk.asserts(0, 3, 2);
     int own = talk.asserts(1, 3, 1);
     talk.does(0, ParleyRoom.ASSERT, 3, 1, 2, -1);
     talk.room.tick(5);

@@ -18,7 +18,8 @@ final class HearingTests {
 
   private static void heard(Talk talk, int turn, int... due) {
     for (int hearer = 0; hearer < 4; hearer++) {
-      Check.same("what " + hearer + " has of turn " + turn, talk.room.heard(turn, hearer), due[hearer]);
+      Check.same("what " + hearer + " has of turn " + turn,
+          talk.room.heard(turn, hearer), due[hearer]);
     }
   }
 

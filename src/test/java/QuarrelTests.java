@@ -10,7 +10,7 @@ final class QuarrelTests {
     endByReasons();
     endByRetracting();
     endByAgreeing();
-    stayTurnedRound();
+    stay();
     endByHintsAndSilence();
     endInBetween();
   }
@@ -151,8 +151,7 @@ final class QuarrelTests {
     count(talk, "the atom as given", 0);
   }
 
-  /** Both turn round in one step only where a third says so: here by a hint and a denial. */
-  private static void stayTurnedRound() {
+  private static void stay() {
     Talk talk = new Talk();
     talk.quarrel(3);
     talk.does(0, ParleyRoom.ASSERT, 3, 1);

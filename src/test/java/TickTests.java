@@ -44,7 +44,8 @@ final class TickTests {
       } else {
         Check.same("the others are LOST", talk.state(turn), ParleyRoom.LOST);
         Check.same("what is LOST has no clock", talk.room.turn(turn, 7), -1);
-        Check.same("what is LOST is not heard", talk.room.heard(turn, (talk.room.turn(turn, 0) + 1) % 4), 0);
+        int hearer = (talk.room.turn(turn, 0) + 1) % 4;
+        Check.same("what is LOST is not heard", talk.room.heard(turn, hearer), 0);
       }
     }
     return winner;
