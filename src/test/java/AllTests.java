@@ -4,8 +4,7 @@ public final class AllTests {
 
   public static void main(String[] args) {
     FaceTests.run();
-    TellingTests.run();
-    ArgumentTests.run();
+    ActTests.run();
     PossibleTests.run();
     StrictTests.run();
     TickTests.run();
@@ -16,6 +15,13 @@ public final class AllTests {
     OfferTests.run();
     AskingTests.run();
     RandomRunTests.run();
+    TermEdgeTests.run();
+    TurnEdgeTests.run();
+    TickEdgeTests.run();
+    TellingEdgeTests.run();
+    SayingEdgeTests.run();
+    AskingEdgeTests.run();
+    SentenceTests.run();
     Check.close();
   }
 }

@@ -16,12 +16,22 @@ final class Check {
     }
   }
 
+  /** How many checks there were, as due or not. */
+  static int count() {
+    return passed + failed;
+  }
+
   /**
    * The call must throw just this exception, from the class itself and not from the library, and
-   * leave all answers of the room as they were.
+   * leave what Snapshot tells as it was. Refusals looks at all the rest.
    */
   static void refuses(ParleyRoom room, String what, Class<?> due, Runnable call) {
     String before = Snapshot.of(room);
+    throwsIt(what, due, call);
+    same(what + " changes nothing", Snapshot.of(room), before);
+  }
+
+  static void throwsIt(String what, Class<?> due, Runnable call) {
     Object got = "nothing";
     String from = "nowhere";
     try {
@@ -32,7 +42,6 @@ final class Check {
     }
     same(what + " throws by itself", from, "ParleyRoom");
     same(what + " throws", got, due);
-    same(what + " changes nothing", Snapshot.of(room), before);
   }
 
   static void noSuch(ParleyRoom room, String what, Runnable call) {

@@ -1,127 +1,52 @@
 /**
- * Long runs of calls by a fixed sequence of numbers: what must hold of any run, and that nothing is
- * thrown but what the document names.
+ * Runs of calls by fixed sequences of numbers: what must hold behind any run, that nothing is thrown
+ * but what the document names, and that what must not matter does not.
  */
 final class RandomRunTests {
   private static final int RUNS = 400;
-  private static final int CALLS = 512;
+  private static final int LONG = 150;
+  /** So short that with all that is asked behind it, it stays below 512 calls. */
+  private static final int SHORT = 60;
+  private static final int RUNS_IN_OTHER_WAYS = 100;
 
-  private long seed;
-
-  private RandomRunTests(long seed) {
-    this.seed = seed;
-  }
+  private RandomRunTests() {}
 
   static void run() {
-    for (int i = 1; i <= RUNS; i++) {
-      new RandomRunTests(i).oneRun(i);
+    for (int seed = 1; seed <= RUNS; seed++) {
+      Check.same("run " + seed, fault(seed), "");
+    }
+    for (int seed = 1; seed <= RUNS_IN_OTHER_WAYS; seed++) {
+      otherWays(RUNS + seed);
     }
   }
 
-  private int below(int bound) {
-    seed = seed * 6364136223846793005L + 1442695040888963407L;
-    return (int) ((seed >>> 33) % bound);
-  }
-
-  private void oneRun(int run) {
-    ParleyRoom room = new ParleyRoom();
-    String bad = "";
+  private static String fault(long seed) {
     try {
-      for (int call = 0; call < CALLS && bad.isEmpty(); call++) {
-        bad = oneCall(room);
+      String bad = RandomRun.fault(seed, LONG);
+      for (int steps = LONG / 3; steps <= LONG && bad.isEmpty(); steps += LONG / 3) {
+        bad = commitmentsFit(RandomRun.room(seed, steps, RandomRun.Way.PLAIN));
+        if (bad.isEmpty()) {
+          bad = turnsFit(RandomRun.room(seed, steps, RandomRun.Way.PLAIN));
+        }
       }
+      return bad;
     } catch (RuntimeException e) {
-      bad = "threw " + e;
-    }
-    Check.same("run " + run, bad, "");
-  }
-
-  /** Returns what is wrong, or nothing. */
-  private String oneCall(ParleyRoom room) {
-    switch (below(12)) {
-      case 0:
-        tellOfSpeaker(room);
-        return "";
-      case 1:
-        room.give(below(8), below(5) - 1);
-        return "";
-      case 2:
-      case 3:
-      case 4:
-        int before = room.clock();
-        int ticks = below(8) == 0 ? 1 + below(7) : 1;
-        return room.tick(ticks) == before + ticks ? invariants(room) : "wrong clock";
-      default:
-        return oneTurn(room);
+      return "threw " + e;
     }
   }
 
-  private void tellOfSpeaker(ParleyRoom room) {
-    int speaker = below(4);
-    switch (below(5)) {
-      case 0:
-        room.power(speaker, below(10));
-        break;
-      case 1:
-        int speaks = below(3);
-        room.knows(speaker, 1 << speaks | below(8), speaks, below(2) == 0);
-        break;
-      case 2:
-        room.believe(speaker, below(10), below(3));
-        break;
-      case 3:
-        room.deafen(speaker, below(6));
-        break;
-      default:
-        room.strict(below(3) == 0);
-        break;
+  private static void otherWays(long seed) {
+    String plain = whole(seed, RandomRun.Way.PLAIN);
+    for (RandomRun.Way way : RandomRun.Way.values()) {
+      Check.same("run " + seed + " " + way, whole(seed, way).equals(plain), true);
     }
   }
 
-  /** Few atoms and many wrong arguments: say must do what can has told. */
-  private String oneTurn(ParleyRoom room) {
-    int speaker = below(40) == 0 ? 4 : below(4);
-    int act = below(40) == 0 ? 16 : below(16);
-    boolean toOne = act == ParleyRoom.ASK || act == ParleyRoom.OFFER || below(3) == 0;
-    int to = below(30) == 0 ? below(17) : toOne ? 1 << (speaker + 1 + below(3)) % 4
-        : 15 & ~(1 << speaker);
-    boolean ofTurn = act >= ParleyRoom.ACK && act <= ParleyRoom.DENY || act >= ParleyRoom.ACCEPT;
-    int about = ofTurn ? room.said() - 1 - below(6) : below(act == ParleyRoom.OFFER ? 256 : 5);
-    int value = below(4);
-    int given = act == ParleyRoom.OFFER ? below(22) : below(3) == 0 ? below(5) : -1;
-    int turns = room.said();
-    int told = tryCan(room, speaker, act, about, value, to, given);
-    int done = trySay(room, speaker, act, about, value, to, given);
-    if (told != done) {
-      return "can told " + told + ", say did " + done;
-    }
-    return room.said() == turns + (done == 1 ? 1 : 0) ? "" : "wrong number of turns";
+  private static String whole(long seed, RandomRun.Way way) {
+    return Whole.of(() -> RandomRun.room(seed, SHORT, way));
   }
 
-  private static int tryCan(ParleyRoom room, int... a) {
-    try {
-      return room.can(a[0], a[1], a[2], a[3], a[4], a[5]) ? 1 : 0;
-    } catch (IndexOutOfBoundsException e) {
-      return 2;
-    } catch (IllegalArgumentException e) {
-      return 3;
-    }
-  }
-
-  private static int trySay(ParleyRoom room, int... a) {
-    int turns = room.said();
-    try {
-      return room.say(a[0], a[1], a[2], a[3], a[4], a[5]) == turns ? 1 : 4;
-    } catch (IndexOutOfBoundsException e) {
-      return 2;
-    } catch (IllegalArgumentException e) {
-      return 3;
-    } catch (IllegalStateException e) {
-      return 0;
-    }
-  }
-
-  private static String invariants(ParleyRoom room) {
+  private static String commitmentsFit(ParleyRoom room) {
     for (int speaker = 0; speaker < 4; speaker++) {
       for (int atom = 0; atom < 10; atom++) {
         int stand = room.stand(speaker, atom);
@@ -139,11 +64,14 @@ final class RandomRunTests {
         }
       }
     }
-    return turnsFit(room);
+    return room.questions() <= 6 ? "" : "too many questions";
   }
 
+  /** The latest turns, so that the calls stay below 512. */
   private static String turnsFit(ParleyRoom room) {
-    for (int turn = 0; turn < room.said(); turn++) {
+    room.tick(1);
+    int said = room.said();
+    for (int turn = Math.max(0, said - 30); turn < said; turn++) {
       int state = room.turn(turn, 6);
       boolean carriedOut = state == ParleyRoom.DONE || state == ParleyRoom.CHALLENGED;
       if (state == ParleyRoom.SAID) {
@@ -159,6 +87,6 @@ final class RandomRunTests {
         }
       }
     }
-    return room.questions() <= 6 ? "" : "too many questions";
+    return "";
   }
 }
