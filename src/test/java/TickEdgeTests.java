@@ -289,6 +289,22 @@ final class TickEdgeTests {
     missed.room.tick(12);
     Check.same("MISSED", missed.room.stand(1, 0), 0);
     Check.same("not MISSED", missed.room.stand(2, 0), NO);
+    silenceAboutWhatIsNoClaim();
+  }
+
+  /** Speaker 0 is committed all the same, by a turn that speaker 2 alone heard. */
+  private static void silenceAboutWhatIsNoClaim() {
+    Talk talk = new Talk();
+    talk.room.strict(true);
+    talk.asserts(1, 5, NO);
+    int doubted = talk.does(0, ParleyRoom.ASSERT, 0, NO, Talk.to(1, 3), 5);
+    talk.does(0, ParleyRoom.HINT, 0, NO, Talk.to(3), NONE);
+    int claim = talk.does(0, ParleyRoom.ASSERT, 0, NO, Talk.to(2), NONE);
+    talk.room.tick(9);
+    Check.same("challenged", talk.state(doubted), ParleyRoom.CHALLENGED);
+    Check.same("heard all the same", talk.room.heard(doubted, 3), ParleyRoom.HEARD);
+    Check.same("a claim", talk.room.standBy(2, 0), claim);
+    Check.same("no claim", talk.room.stand(3, 0), 0);
   }
 
   // ---- carrying out
@@ -556,10 +572,14 @@ final class TickEdgeTests {
       talk.room.give(good, good);
     }
     int first = talk.offers(0, 1, 2, 1, 20);
-    int other = talk.offers(0, 1, 4, 2, 20);
     int third = talk.offers(2, 4, 2, 1, 20);
+    int fourth = talk.offers(1, 2, 0, 3, 20);
+    int fifth = talk.offers(2, 4, 1, 0, 20);
+    int other = talk.offers(0, 1, 0, 3, 20);
     int second = talk.offers(0, 1, 0, 1, 20);
     Check.same("to the same one", talk.isOpen(first), false);
+    Check.same("by that one to another", talk.isOpen(fourth), true);
+    Check.same("by another to the speaker", talk.isOpen(fifth), true);
     int back = talk.offers(1, 2, 1, 0, 20);
     Check.same("by that one to the speaker", talk.isOpen(second), false);
     Check.same("open", talk.isOpen(back), true);
@@ -768,6 +788,17 @@ final class TickEdgeTests {
     Check.same("who knows none of the hearer's", through(2, true, 0, all), ParleyRoom.MISSED);
     Check.same("to whom it is not said", through(3, true, 0, Talk.to(1, 3)), ParleyRoom.MISSED);
     Check.same("none but hearer and speaker", through(3, true, 0, Talk.to(1)), ParleyRoom.MISSED);
+    Talk talk = foreign();
+    talk.room.knows(1, 4, 2, false);
+    talk.room.knows(2, 6, 2, true);
+    int turn = talk.say(0, ParleyRoom.HINT, 0, YES);
+    talk.room.knows(0, 1, 0, false);
+    talk.room.tick(1);
+    Check.same("its language, as it was said", talk.room.heard(turn, 1), ParleyRoom.COMING);
+    turn = talk.say(0, ParleyRoom.HINT, 0, YES);
+    talk.room.knows(0, 2, 1, false);
+    talk.room.tick(1);
+    Check.same("not that of the tick", talk.room.heard(turn, 1), ParleyRoom.MISSED);
   }
 
   private static void deafThen() {
