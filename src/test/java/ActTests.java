@@ -1,3 +1,4 @@
+import java.util.Arrays;
 import java.util.Map;
 import java.util.TreeMap;
 import java.util.TreeSet;
@@ -93,7 +94,7 @@ final class ActTests {
         changed.add(now.getKey() + " is " + now.getValue());
       }
     }
-    Check.same(what, changed, new TreeSet<>(java.util.Arrays.asList(due)));
+    Check.same(what, changed, new TreeSet<>(Arrays.asList(due)));
   }
 
   /** An act to which given does not matter. */

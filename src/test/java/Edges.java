@@ -1,4 +1,5 @@
 import java.util.LinkedHashSet;
+import java.util.List;
 import java.util.Set;
 import java.util.function.Consumer;
 import java.util.function.ObjIntConsumer;
@@ -101,7 +102,7 @@ final class Edges {
     });
   }
 
-  private static Iterable<Supplier<ParleyRoom>> scenes() {
-    return java.util.List.of(Scenes.NEW, Scenes.BUSY);
+  private static List<Supplier<ParleyRoom>> scenes() {
+    return List.of(Scenes.NEW, Scenes.BUSY);
   }
 }

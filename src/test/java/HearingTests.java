@@ -157,7 +157,8 @@ final class HearingTests {
     talk.room.tick(3);
     heard(talk, turn, 0, 3, 1, 3);
     int clarify = talk.replies(2, ParleyRoom.CLARIFY, turn);
-    Check.same("what is missed as it comes can be asked back", talk.state(clarify), ParleyRoom.DONE);
+    Check.same("what is missed as it comes can be asked back",
+        talk.state(clarify), ParleyRoom.DONE);
     talk.replies(0, ParleyRoom.REPEAT, turn);
     heard(talk, turn, 0, 3, 2, 3);
     talk.room.tick(1);

@@ -1,4 +1,4 @@
-/** Promises 8 and 9: which turns are possible, by rules that are not strict, and the limits of say. */
+/** Promises 8 and 9: which turns are possible by rules that are not strict, and limits of say. */
 final class PossibleTests {
   private PossibleTests() {}
 

@@ -1,6 +1,6 @@
 /**
- * Runs of calls by fixed sequences of numbers: what must hold behind any run, that nothing is thrown
- * but what the document names, and that what must not matter does not.
+ * Runs of calls by fixed sequences of numbers: what must hold behind any run, that nothing is
+ * thrown but what the document names, and that what must not matter does not.
  */
 final class RandomRunTests {
   private static final int RUNS = 400;

@@ -16,14 +16,7 @@ final class Saying {
 
   /** Arguments of an act by speaker 3 that are in their ranges, where turn 0 was said. */
   static Saying inRange(int act) {
-    switch (act) {
-      case ParleyRoom.OFFER:
-        return of(3, act, 128, 0, 1, 5);
-      case ParleyRoom.BECAUSE:
-        return of(3, act, 0, 1, 1, NONE);
-      default:
-        return of(3, act, 0, 1, 1, NONE);
-    }
+    return act == ParleyRoom.OFFER ? of(3, act, 128, 0, 1, 5) : of(3, act, 0, 1, 1, NONE);
   }
 
   private Saying with(int place, int number) {

@@ -103,7 +103,8 @@ final class TellingEdgeTests {
   private static void languagesRefused() {
     Edges.outOfRange(1, 7, (room, languages) -> room.knows(0, languages, 0, true));
     Edges.outOfRange(0, 2, (room, speaks) -> room.knows(0, 7, speaks, true));
-    Refusals.outOfRange(Scenes.NEW, "32, which a shift takes for 0", room -> room.knows(0, 7, 32, true));
+    Refusals.outOfRange(Scenes.NEW, "32, which a shift takes for 0",
+        room -> room.knows(0, 7, 32, true));
     for (int languages = 1; languages <= 7; languages++) {
       for (int speaks = 0; speaks <= 2; speaks++) {
         int set = languages;

@@ -35,7 +35,7 @@ final class TermEdgeTests {
         () -> Check.same("clock", new ParleyRoom().clock(), 0));
   }
 
-  /** 100 turns, 100 ticks, and questions behind each: the last of 512 calls answers as the first. */
+  /** 100 turns, 100 ticks, and what is asked behind each: the last of 512 calls is as the first. */
   private static void manyCalls() {
     ParleyRoom room = new ParleyRoom();
     BigInteger sum = BigInteger.valueOf(7);

@@ -243,8 +243,8 @@ final class TickEdgeTests {
   }
 
   /**
-   * Speaker 3 claims what speaker 2 hears later through speaker 1; as it comes, speaker 2 claims the
-   * same to speaker 0, and retracts. By turns, 2 is committed first, so that then its claim counts.
+   * Speaker 3 claims what speaker 2 hears later through speaker 1; as it comes, speaker 2 claims
+   * the same to speaker 0, and retracts. By turns, 2 is committed first, so that its claim counts.
    */
   private static void silenceByTurns() {
     Talk talk = new Talk();
