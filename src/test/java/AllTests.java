@@ -22,6 +22,7 @@ public final class AllTests {
     SayingEdgeTests.run();
     AskingEdgeTests.run();
     SentenceTests.run();
+    ReadmeTests.run();
     Check.close();
   }
 }
